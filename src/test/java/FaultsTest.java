@@ -120,6 +120,15 @@ public final class FaultsTest {
     x.cut(0);
     due.is("10 no rows", x.second(3), 3);
     due.is("25 no fault", x.fault(0), 0);
+    CrossingKeeper z = paired(2, row(1, 1, 1, 1), row(0, 0, 0, 0));
+    z.second(1);
+    z.cut(1);
+    due.is("10 no rows of the other", z.second(3), 3);
+    due.is("25 no fault of it", z.fault(0), 0);
+    CrossingKeeper w = paired(1, row(1), row(0));
+    w.cut(1);
+    w.second(1);
+    due.is("10 no rows in second 0", w.fault(0), 0);
     CrossingKeeper y = paired(2, row(1, 1, 1, 1), row(0, 0, 0, 0));
     y.second(1);
     y.detector(0);
@@ -261,6 +270,14 @@ public final class FaultsTest {
     due.is("4 flash only once", x.count(11), 2);
     due.is("4 flash still", x.light(1), FLASH);
     due.is("25 its second stays", x.fault(1), 0);
+    x.restore();
+    x.second(4);
+    x.alarm();
+    x.second(1);
+    x.second(2);
+    due.is("4 red behind a later one", x.light(0), RED);
+    x.second(1);
+    due.is("4 flash behind a later one", x.light(0), FLASH);
   }
 
   private static void restoring() {

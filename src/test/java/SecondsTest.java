@@ -25,9 +25,11 @@ public final class SecondsTest {
     waitingForAnAmber();
     firstAskedGoesFirst();
     goingRound();
+    goingRoundBehindTheLatest();
     hurriedGoesFirst();
     hurriedWaitsAlone();
     gaps();
+    gapOfALaterGreen();
     gapFindings();
     gapOfRest();
     membersAndChanges();
@@ -385,6 +387,26 @@ public final class SecondsTest {
     }
   }
 
+  private static void goingRoundBehindTheLatest() {
+    CrossingKeeper x = Crossings.ofKinds(REST, REST, REST, REST);
+    for (int p = 0; p < 4; p++) x.stage(p, NONE, NONE, NONE);
+    x.ask(1);
+    x.second(1);
+    x.ask(0);
+    x.ask(1);
+    x.ask(3);
+    due.is("18 behind the green one", x.stageOf(1), 3);
+    x.ask(2);
+    due.is("18 the first behind it", x.stageOf(1), 2);
+    x.alarm();
+    x.second(1);
+    due.is("18 behind the one that was green", x.stageOf(1), 2);
+    x.restore();
+    x.second(1);
+    due.is("e behind the one that was green", x.stageOf(0), 2);
+    due.is("18 then the next", x.stageOf(1), 3);
+  }
+
   private static void hurriedGoesFirst() {
     CrossingKeeper x = Crossings.ofKinds(REST, REST, REST);
     for (int p = 0; p < 3; p++) x.stage(p, NONE, NONE, NONE);
@@ -447,6 +469,26 @@ public final class SecondsTest {
     gap("2 by -127, cut towards 0", 0, -127, 0, 1);
     gap("1 by 1", 1, 1, 0);
     gap("2 by 254", 0, 127, 127, 0);
+  }
+
+  private static void gapOfALaterGreen() {
+    CrossingKeeper x = Crossings.ofKinds(CAR, REST);
+    x.stage(0, NONE, NONE, NONE);
+    x.stage(1, NONE, NONE, NONE);
+    x.detector(0);
+    Crossings.rows(x, 0, 0, -50, 0, 1, 0, 1, 0, 0, 9);
+    x.table(0, 5, 5, 1, 0);
+    x.second(3);
+    due.is("not green yet", x.light(0), RED);
+    x.ask(1);
+    x.ask(0);
+    x.second(1);
+    due.is("green since 3", x.light(0), GREEN);
+    x.second(4);
+    due.is("green still", x.light(0), GREEN);
+    x.second(1);
+    due.is("ended in 8", x.light(0), AMBER);
+    due.is("gap of 3 to 7: 5 by 2", x.told(0, 4), 2);
   }
 
   private static void gapFindings() {

@@ -10,6 +10,7 @@ public final class TellingTest {
     lights();
     lightsThatWere();
     lightsOfLongAgo();
+    lightsOfEachSecond();
     stagesTold();
     places();
     toldOfAPhase();
@@ -86,6 +87,23 @@ public final class TellingTest {
     x.second(1);
     due.is("17 red is the oldest", x.was(0, 60), 0);
     due.is("17 the other", x.was(1, 60), 1);
+  }
+
+  /** Green and red change about without a rhythm that 61 seconds would hide. */
+  private static void lightsOfEachSecond() {
+    CrossingKeeper x = Crossings.ofKinds(REST, REST);
+    x.stage(0, NONE, NONE, NONE);
+    x.stage(1, NONE, NONE, NONE);
+    x.table(0, 1, 1, 0, 0);
+    x.table(1, 2, 2, 0, 0);
+    int[] want = new int[100];
+    for (int t = 0; t < want.length; t++) {
+      if (t % 7 != 3) x.ask(0);
+      if (t % 5 != 1) x.ask(1);
+      x.second(1);
+      want[t] = x.light(0);
+    }
+    for (int n = 0; n <= 60; n++) due.is("17 of each, n " + n, x.was(0, n), want[99 - n]);
   }
 
   private static void stagesTold() {
@@ -177,6 +195,10 @@ public final class TellingTest {
     y.table(1, 1, 1, 9, 0);
     y.second(1);
     due.is("22 AMBER of one in no stage", y.bound(), 20 + 9);
+    y.table(0, 7, 8, 0, 1);
+    y.table(1, 7, 8, 0, 1);
+    y.second(1);
+    due.is("22 no AMBER, no CLEARING", y.bound(), 8);
   }
 
   private static void counts() {
