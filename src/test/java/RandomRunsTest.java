@@ -160,46 +160,8 @@ public final class RandomRunsTest {
     if (calls >= CALLS) return 0;
     calls++;
     int want = model.call(name, a);
-    StringBuilder text = new StringBuilder("seed " + seed + " call " + calls + " " + name);
-    for (int x : a) text.append(' ').append(x);
-    due.is(text.toString(), ofKeeper(name, a), want);
+    Call call = new Call(name, a);
+    due.is(() -> "seed " + seed + " call " + calls + " " + call, call.on(keeper), want);
     return want;
-  }
-
-  private int ofKeeper(String name, int[] a) {
-    switch (name) {
-      case "phase": return keeper.phase(a[0]);
-      case "conflict": return keeper.conflict(a[0], a[1], a[2], a[3]);
-      case "stage": return keeper.stage(a[0], a[1], a[2], a[3]);
-      case "detector": return keeper.detector(a[0]);
-      case "cut": return keeper.cut(a[0]);
-      case "passing": return keeper.passing(a[0], a[1], a[2]);
-      case "table": return keeper.table(a[0], a[1], a[2], a[3], a[4]);
-      case "lamp": return keeper.lamp(a[0], a[1] == 1);
-      case "pair": return keeper.pair(a[0], a[1], a[2]);
-      case "ask": return keeper.ask(a[0]);
-      case "hurry": return keeper.hurry(a[0]);
-      case "second": return keeper.second(a[0]);
-      case "alarm": return keeper.alarm();
-      case "restore": return keeper.restore();
-      default: return toldByKeeper(name, a);
-    }
-  }
-
-  private int toldByKeeper(String name, int[] a) {
-    switch (name) {
-      case "light": return keeper.light(a[0]);
-      case "was": return keeper.was(a[0], a[1]);
-      case "stageOf": return keeper.stageOf(a[0]);
-      case "place": return keeper.place(a[0], a[1]);
-      case "told": return keeper.told(a[0], a[1]);
-      case "length": return keeper.length(a[0]);
-      case "bound": return keeper.bound();
-      case "count": return keeper.count(a[0]);
-      case "finding": return keeper.finding(a[0]);
-      case "fault": return keeper.fault(a[0]);
-      case "trace": return keeper.trace();
-      default: throw new IllegalArgumentException(name);
-    }
   }
 }
