@@ -93,7 +93,12 @@ final class FaultBounds {
     // In 1 the rows of one do not reach: 0 and 2 are not running.
     paired(2, "1111", "0").make("second 2; passing 1 0 0 x2").is("second 1", 1).is("fault 0", 0)
         .make("passing 1 0 0").is("second 1", 1).is("fault 1", 3);
-    paired(2, "1111", "0000").make("second 1; cut 1").is("second 3", 3).is("fault 0", 0);
+    for (int d = 0; d <= 1; d++) {
+      paired(2, "1111", "0000").make("second 1; cut " + d).is("second 3", 3).is("fault 0", 0);
+      paired(2, "0000", "1111").make("second 1; cut " + d).is("second 3", 3).is("fault 0", 0);
+      paired(1, "1", "0").make("cut " + d).is("second 1", 1).is("fault 0", 0);
+      paired(1, "0", "1").make("cut " + d).is("second 1", 1).is("fault 0", 0);
+    }
     due.says(PART, "so does a FAULT, of all pairs);");
     paired(3, "1111111", "0000000").make("second 1; alarm").is("second 1", 1).is("fault 0", ALARM)
         .make("second 1; restore").is("second 4", 3).is("fault 0", PAIR).is("fault 1", 5);
@@ -154,6 +159,9 @@ final class FaultBounds {
         + "table 0 3 3 9 0; ask 1; second 4").is("light 0", AMBER).is("told 0 4", 3)
         .make("second 1; alarm; second 1").is("told 0 4", 3).is("finding 0", 0);
     due.says(PART, "no STAGE is GREEN, HURRIED; an ALARM is gone.");
+    // What is asked stays so, also of one that is amber, and of those that are red.
+    run(lights + "ask 2; ask 0; alarm; second 1").is("told 2 8; told 0 8", 2).is("told 1 8", NONE)
+        .is("stageOf 1", 0).make("second 4; restore").is("told 2 8; told 0 8", 2);
     run(TWO_RESTS + "ask 0; second 1; hurry 1; alarm; second 1").is("stageOf 0; stageOf 2", NONE)
         .is("stageOf 3", NONE).make("restore").is("second 4", 4).is("count 5", 1)
         .is("stageOf 0", NONE);

@@ -67,7 +67,10 @@ final class HappeningBounds {
 
   private void second() {
     due.says("promise 13", "n SECONDS (0 .. 4) pass,");
-    Run x = run("phase 4").keeps("second 0", 0).is("count 0", 0);
+    Run x = run("phase 4; table 0 9 9 9 0; alarm").keeps("second 0", 0).is("count 0", 0)
+        .is("told 0 9", 5).is("count 5", 0);
+    x.is("second 1", 1).is("told 0 9", 9).is("count 5", 1);
+    x = run("phase 4");
     for (int n = 0; n <= 4; n++) x.is("second " + n, n).is("count 0", n * (n + 1) / 2);
     x.keeps("second 0", 0);
     due.says("promise 13", "none behind one in which a FAULT is met: how many.");
@@ -81,7 +84,8 @@ final class HappeningBounds {
     run("alarm").is("second 0", 0).is("count 5", 0).is("second 4", 1).is("second 4", 4)
         .is("count 0", 5).make("restore").is("second 4", 4).is("count 0", 9);
     due.says("promise 13", "BAD.");
-    run(TWO_RESTS + "ask 0; alarm").keeps("second -1; second 5; second min; second max", BAD)
+    run(TWO_RESTS + "table 0 9 9 9 0; ask 0; alarm")
+        .keeps("second -1; second 5; second min; second max", BAD).is("told 0 9", 5).is("count 9", 1)
         .is("count 0", 0).is("second 4", 1).keeps("second -1; second 5; second -", BAD).is("count 0", 1);
   }
 

@@ -70,6 +70,18 @@ final class TermsBounds {
         .make("second 4 x4; second 3").is("light 1", RED).make("second 1").is("light 1", GREEN)
         .make("ask 0; second 1").is("told 0 7", 22).is("light 0", GREEN);
     run(TWO_RESTS + greens).is("told 1 7", 0).make("ask 0; second 1").is("told 0 7", 0);
+    for (int p = 0; p < 8; p++) {
+      for (int q = 0; q < 8; q++) {
+        if (p != q) conflictsOf(p, q);
+      }
+    }
+  }
+
+  /** The first of both ends in 1 with AMBER 2. */
+  private void conflictsOf(int p, int q) {
+    Run x = run("phase 4 x8; stage " + p + " - - -; stage " + q + " - - -; conflict " + p + " " + q
+        + " 3 5; table " + p + " 1 1 2 0; ask " + p + "; ask " + q + "; second 2");
+    for (int other = 0; other < 8; other++) x.is("told " + other + " 7", other == q ? 3 + 3 : 0);
   }
 
   private void stages() {
